@@ -1,0 +1,67 @@
+import java.util.Objects;
+
+/** Compares answers with what is due, and tells the exit code from it. */
+final class Check {
+    private static int done = 0;
+    private static int wrong = 0;
+
+    interface Call {
+        Object answer();
+    }
+
+    private Check() {
+    }
+
+    /** What is due is an answer, or the class of the exception that the call throws. */
+    static void due(String what, Object due, Call call) {
+        Object got;
+        try {
+            got = call.answer();
+        } catch (RuntimeException e) {
+            got = e.getClass();
+        }
+        done++;
+        if (!Objects.equals(due, got)) {
+            wrong++;
+            System.out.println(what + " answered " + got + ", due is " + due);
+        }
+    }
+
+    static void that(String what, boolean holds) {
+        due(what, true, () -> holds);
+    }
+
+    /** Adds steps told as "k 0 1; w 0 0; j 0 0 2", numbers that are left out being 0. */
+    static void steps(Ticketdoor x, int hand, String program) {
+        for (String told : program.split(";")) {
+            String[] parts = told.trim().split(" +");
+            int[] numbers = new int[3];
+            for (int index = 1; index < parts.length; index++) {
+                numbers[index - 1] = Integer.parseInt(parts[index]);
+            }
+            x.addStep(hand, parts[0].charAt(0), numbers[0], numbers[1], numbers[2]);
+        }
+    }
+
+    /** A new object with a hand for each of the programs. */
+    static Ticketdoor hands(String... programs) {
+        return withHands(new Ticketdoor(), programs);
+    }
+
+    static Ticketdoor withHands(Ticketdoor x, String... programs) {
+        for (String program : programs) {
+            int hand = x.addHand();
+            if (!program.isEmpty()) {
+                steps(x, hand, program);
+            }
+        }
+        return x;
+    }
+
+    static void finish(String name) {
+        System.out.println(name + ": " + done + " checks, " + wrong + " wrong");
+        if (wrong != 0 || done == 0) {
+            System.exit(1);
+        }
+    }
+}
