@@ -10,6 +10,7 @@ public final class AgreementTest {
         swapDecides();
         deathKeeps();
         severalEnds();
+        changesAreSeen();
         Check.finish("AgreementTest");
     }
 
@@ -67,6 +68,23 @@ public final class AgreementTest {
         x.setDeath(0, 16);
         Check.due("decided before it dies", true, () -> x.canDecide(4));
         Check.due("one value", 0, x::countUndecided);
+    }
+
+    private static void changesAreSeen() {
+        Ticketdoor x = Check.hands("z 0", "k 0 1");
+        Check.due("nothing decided", 0, x::countUndecided);
+        Check.steps(x, 0, "d 0");
+        Check.due("two before the toss", 2, x::countUndecided);
+        Check.steps(x, 1, "d 0");
+        Check.due("in one end", true, x::canDisagree);
+        Check.due("all but those behind a 1", 9, x::countUndecided);
+        x.dropSteps(0);
+        Check.due("in no end any more", false, x::canDisagree);
+        Check.due("0 in none", false, () -> x.canDecide(0));
+        Check.due("1 in some", true, () -> x.canDecide(1));
+        x.dropSteps(1);
+        Check.due("1 in none", false, () -> x.canDecide(1));
+        Check.due("nothing decided again", 0, x::countUndecided);
     }
 
     /** A circle from which two ends can be come to: all its states are undecided. */

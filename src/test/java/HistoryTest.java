@@ -49,6 +49,14 @@ public final class HistoryTest {
         Check.due("the next one is 0", 0, () -> x.addCall('w', 5, 3, 4));
         x.addCall('w', 5, 0, 2);
         Check.due("what went ahead is told anew", 1, () -> x.orderAt(0));
+        Ticketdoor y = calls("w1 0 1", "w2 2 3", "r7 4 5");
+        Check.due("no order", 0, y::countOrders);
+        Check.due("three", 3, y::dropCalls);
+        Check.due("the empty order", 1, y::countOrders);
+        Check.due("no place", NONE, () -> y.orderAt(0));
+        y.addCall('w', 1, 0, 9);
+        y.addCall('w', 2, 0, 9);
+        Check.due("nothing goes ahead any more", 2, y::countOrders);
     }
 
     private static void withoutCalls() {

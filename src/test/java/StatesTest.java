@@ -24,6 +24,9 @@ public final class StatesTest {
         justAThousand();
         overAThousand();
         changesAreSeen();
+        allWordsAndHands(7);
+        allWordsAndHands(8);
+        allWordsAndHands(9);
         Check.finish("StatesTest");
     }
 
@@ -262,6 +265,10 @@ public final class StatesTest {
         Check.due("the last one", 999, x::getState);
         Check.due("sound", true, x::isSound);
         Check.due("undecided", 0, x::countUndecided);
+        Check.due("nothing decided", false, () -> x.canDisagree() || x.canDecide(0));
+        Check.due("nobody inside or trying", false, () -> x.mostInside() > 0 || x.canStarve(2));
+        Check.due("one outcome", 1, x::countOutcomes);
+        Check.due("one word at one end", true, () -> x.canEnd(0, 0) && x.canKeep(2, 2, 0) && x.greatest(0) == 0);
     }
 
     private static void overAThousand() {
@@ -301,6 +308,27 @@ public final class StatesTest {
         Check.due("still too many", TOO_MANY, x::countStates);
         x.dropSteps(2);
         Check.due("not too many any more", 77, x::countStates);
+    }
+
+    /** What many words have is taken for nothing that a hand has. */
+    private static void allWordsAndHands(int first) {
+        Ticketdoor x = new Ticketdoor();
+        for (int word = 0; word < 6; word++) {
+            x.addWord(first, true, 9);
+        }
+        Check.withHands(x, "k 0 9; w 0 5", "k 2 8", "");
+        counts("six words, three hands", x, 8, 10, 1);
+        Check.due("nobody inside", 0, x::mostInside);
+        Check.due("nobody at all", 0.0f, x::insideShare);
+        for (int value = 0; value < 10; value++) {
+            int at = value;
+            Check.due("decided " + value, false, () -> x.canDecide(at));
+            Check.due("at an end, " + value, value == first, () -> x.canEnd(0, at) && x.canEnd(4, at));
+            Check.due("in the last word, " + value, value == 9, () -> x.canEnd(5, at));
+        }
+        Check.due("nothing undecided", 0, x::countUndecided);
+        Check.due("one outcome", 1, x::countOutcomes);
+        Check.due("nobody waits", false, () -> x.canStarve(0) || x.canStarve(1) || x.canStarve(2));
     }
 
     private static void changesAreSeen() {

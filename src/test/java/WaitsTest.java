@@ -13,6 +13,7 @@ public final class WaitsTest {
         overtakingInOneTry();
         overtakingWithoutABound();
         turns();
+        changesAreSeen();
         Check.finish("WaitsTest");
     }
 
@@ -111,6 +112,22 @@ public final class WaitsTest {
         Check.due("a death is no circle", 2, () -> dies.overtakes(0, 1));
         Ticketdoor circle = Check.hands("i; i; o; j 0 0 2", "t");
         Check.due("a circle in which it does not go in", 2, () -> circle.overtakes(0, 1));
+    }
+
+    private static void changesAreSeen() {
+        Ticketdoor x = Check.hands("o", "i");
+        Check.due("nobody tries", false, () -> x.canStarve(0));
+        Check.steps(x, 0, "t; j 0 0 2");
+        Check.due("one tries", true, () -> x.canStarve(0));
+        x.dropSteps(0);
+        Check.due("nobody tries again", false, () -> x.canStarve(0));
+        Check.due("nobody is overtaken", 0, () -> x.overtakes(1, 0));
+        Check.steps(x, 0, "t");
+        Check.due("once", 1, () -> x.overtakes(1, 0));
+        Check.steps(x, 1, "i; o; i");
+        Check.due("three times", 3, () -> x.overtakes(1, 0));
+        Check.steps(x, 1, "j 0 0 1");
+        Check.due("without a bound", -1, () -> x.overtakes(1, 0));
     }
 
     /** Peterson's way, trying told once the turn is given away: the other one goes in once at most. */
