@@ -34,6 +34,9 @@ final class Check {
     /** Adds steps told as "k 0 1; w 0 0; j 0 0 2", numbers that are left out being 0. */
     static void steps(Ticketdoor x, int hand, String program) {
         for (String told : program.split(";")) {
+            if (told.isBlank()) {
+                continue;
+            }
             String[] parts = told.trim().split(" +");
             int[] numbers = new int[3];
             for (int index = 1; index < parts.length; index++) {
@@ -51,9 +54,30 @@ final class Check {
     static Ticketdoor withHands(Ticketdoor x, String... programs) {
         for (String program : programs) {
             int hand = x.addHand();
-            if (!program.isEmpty()) {
-                steps(x, hand, program);
+            steps(x, hand, program);
+        }
+        return x;
+    }
+
+    /** Makes moves told as "0 1:2 b1 d0": a step of hand 0, one of hand 1 with choice 2, a buffer's and a death. */
+    static Ticketdoor moves(Ticketdoor x, String told) {
+        for (String move : told.trim().split(" +")) {
+            if (move.startsWith("b")) {
+                x.flush(move.charAt(1) - '0');
+            } else if (move.startsWith("d")) {
+                x.die(move.charAt(1) - '0');
+            } else if (!move.isEmpty()) {
+                x.act(move.charAt(0) - '0', move.length() < 3 ? 0 : Integer.parseInt(move.substring(2)));
             }
+        }
+        return x;
+    }
+
+    /** A new object with whole words of these values. */
+    static Ticketdoor words(int... values) {
+        Ticketdoor x = new Ticketdoor();
+        for (int value : values) {
+            x.addWord(value, false, 1);
         }
         return x;
     }

@@ -1,0 +1,391 @@
+import java.util.NoSuchElementException;
+
+/** Promises 9 to 14 and 17 to 20 at their edges. */
+public final class EdgesOfStatesTest {
+    private static final Class<?> INDEX = IndexOutOfBoundsException.class;
+    private static final Class<?> BAD = IllegalArgumentException.class;
+    private static final Class<?> MANY = ArithmeticException.class;
+    private static final Class<?> NONE = NoSuchElementException.class;
+    private static final String FOUR_TOSSES = "z 0; z 1; z 2; z 0";
+
+    public static void main(String[] args) {
+        atMostAThousand();
+        eachCallAtAThousand();
+        eachCallAboveAThousand();
+        outOfTheCrowdAndBack();
+        countsWithoutHands();
+        likeMovesEach();
+        numberedAsFound();
+        toldByAllParts();
+        endsWithoutMoves();
+        insideNoneToThree();
+        rowsToEachMany();
+        rowsToTheLowest();
+        rowsOfAllLengths();
+        wordsOfEnds();
+        registersOfEnds();
+        unlikeOutcomes();
+        greatestOfAllStates();
+        Check.finish("EdgesOfStatesTest");
+    }
+
+    private static String idle(int steps) {
+        return "o; ".repeat(steps);
+    }
+
+    /** As many states as the product of these, the hands looking at nothing but themselves. */
+    private static Ticketdoor product(int first, int second, int third) {
+        return Check.withHands(Check.words(5), idle(first - 1), idle(second - 1), idle(third - 1));
+    }
+
+    /** "There are at most 1000": one, 999, 1000 and 1001, in unlike ways. */
+    private static void atMostAThousand() {
+        Check.due("a single one", 1, () -> product(1, 1, 1).countStates());
+        Check.due("990", 990, () -> product(9, 10, 11).countStates());
+        String with27 = "z 0; " + idle(12);
+        String with37 = "z 0; o; z 1; " + idle(7);
+        Check.due("27", 27, () -> Check.hands(with27).countStates());
+        Check.due("37", 37, () -> Check.hands(with37).countStates());
+        Check.due("999", 999, () -> Check.hands(with27, with37).countStates());
+        Check.due("999, the other way", 999, () -> Check.hands(with37, "", with27).countStates());
+        Check.due("1000", 1000, () -> product(10, 10, 10).countStates());
+        String with25 = "z 0; " + idle(11);
+        Check.due("25", 25, () -> Check.hands(with25).countStates());
+        Check.due("1000 with tosses", 1000, () -> Check.hands(idle(4), with25, idle(7)).countStates());
+        Check.due("1001", MANY, () -> product(7, 11, 13).countStates());
+        Check.due("1001, the other way", MANY, () -> product(13, 7, 11).countStates());
+        Check.due("1008", MANY, () -> product(7, 9, 16).countStates());
+        Check.due("4913", MANY, () -> product(17, 17, 17).countStates());
+        String with91 = "z 0; z 1; " + idle(5) + "z 2; " + idle(7);
+        Check.due("91", 91, () -> Check.hands(with91).countStates());
+        Check.due("1001 with tosses", MANY, () -> Check.hands(idle(10), with91).countStates());
+        Check.due("910", 910, () -> Check.hands(idle(9), with91).countStates());
+    }
+
+    /** What "there are more than 1000 states" refuses is answered with just 1000. */
+    private static void eachCallAtAThousand() {
+        Ticketdoor x = product(10, 10, 10);
+        Check.due("countStates", 1000, x::countStates);
+        Check.due("countMoves", 2700, x::countMoves);
+        Check.due("countEnds", 1, x::countEnds);
+        Check.due("mostInside", 0, x::mostInside);
+        Check.due("rowLength", NONE, () -> x.rowLength(1));
+        Check.due("rowAt", NONE, () -> x.rowAt(1, 0));
+        Check.due("canStarve", false, () -> x.canStarve(0));
+        Check.due("overtakes", 0, () -> x.overtakes(0, 1));
+        Check.due("canEnd", true, () -> x.canEnd(0, 5));
+        Check.due("canKeep", true, () -> x.canKeep(2, 2, 0));
+        Check.due("countOutcomes", 1, x::countOutcomes);
+        Check.due("greatest", 5, () -> x.greatest(0));
+        Check.due("canDecide", false, () -> x.canDecide(0));
+        Check.due("canDisagree", false, x::canDisagree);
+        Check.due("countUndecided", 0, x::countUndecided);
+        Check.due("getState", 0, x::getState);
+        Check.due("insideShare", 0.0f, x::insideShare);
+        Check.due("meanMoves", 2.7, x::meanMoves);
+        Check.due("isSound", true, x::isSound);
+    }
+
+    private static void eachCallAboveAThousand() {
+        Ticketdoor x = product(7, 11, 13);
+        Check.due("countMoves", MANY, x::countMoves);
+        Check.due("countEnds", MANY, x::countEnds);
+        Check.due("mostInside", MANY, x::mostInside);
+        Check.due("rowLength", MANY, () -> x.rowLength(3));
+        Check.due("rowAt", MANY, () -> x.rowAt(3, 0));
+        Check.due("canStarve", MANY, () -> x.canStarve(2));
+        Check.due("overtakes", MANY, () -> x.overtakes(2, 0));
+        Check.due("canEnd", MANY, () -> x.canEnd(0, 5));
+        Check.due("canKeep", MANY, () -> x.canKeep(2, 2, 0));
+        Check.due("countOutcomes", MANY, x::countOutcomes);
+        Check.due("greatest", MANY, () -> x.greatest(0));
+        Check.due("canDecide", MANY, () -> x.canDecide(9));
+        Check.due("canDisagree", MANY, x::canDisagree);
+        Check.due("countUndecided", MANY, x::countUndecided);
+        Check.due("getState", MANY, x::getState);
+        Check.due("insideShare", MANY, x::insideShare);
+        Check.due("meanMoves", MANY, x::meanMoves);
+        Check.due("countStates", MANY, x::countStates);
+        Check.due("isSound needs them not", true, x::isSound);
+        Check.due("movesAlone", -1, () -> x.movesAlone(0));
+        Check.due("act", 1, () -> x.act(2, 0));
+    }
+
+    /** The same object, with more and with less: what is found is found anew. */
+    private static void outOfTheCrowdAndBack() {
+        Ticketdoor x = product(10, 10, 10);
+        Check.due("a thousand", 1000, x::countStates);
+        Check.steps(x, 0, "o");
+        Check.due("a hundred more", MANY, x::countStates);
+        x.dropSteps(0);
+        Check.due("a hundred", 100, x::countStates);
+        Check.steps(x, 0, idle(9));
+        Check.due("a thousand again", 1000, x::countStates);
+        x.setDeath(1, 16);
+        Check.due("deaths", MANY, x::countStates);
+        x.setDeath(1, -1);
+        Check.due("no deaths", 1000, x::countStates);
+        x.dropSteps(1);
+        x.dropSteps(2);
+        Check.steps(x, 1, "t; i; o");
+        Check.due("forty", 40, x::countStates);
+        Check.due("all answers as of a new one", Answers.asked(Check.withHands(Check.words(5), idle(9), "t; i; o", "")),
+                () -> Answers.asked(x));
+    }
+
+    private static void countsWithoutHands() {
+        for (Ticketdoor x : new Ticketdoor[] {new Ticketdoor(), Check.words(1, 2, 3), Check.hands("", "", "")}) {
+            Check.due("one state", 1, x::countStates);
+            Check.due("no moves", 0, x::countMoves);
+            Check.due("which is an end", 1, x::countEnds);
+            Check.due("nobody inside", 0, x::mostInside);
+            Check.due("no row", NONE, () -> x.rowLength(1));
+            Check.due("one outcome", 1, x::countOutcomes);
+            Check.due("the first state", 0, x::getState);
+            Check.due("mean", 0.0, x::meanMoves);
+            Check.due("share", 0.0f, x::insideShare);
+        }
+    }
+
+    /** "Returns how many, those to like states each." */
+    private static void likeMovesEach() {
+        Check.due("one to itself", 1, () -> Check.hands("j 0 0 0").countMoves());
+        Check.due("two to itself", 2, () -> Check.hands("j 0 0 0", "j 0 0 0").countMoves());
+        Check.due("three to itself", 3, () -> Check.hands("j 0 0 0", "j 0 0 0", "j 0 0 0").countMoves());
+        Check.due("of one state", 1, () -> Check.hands("j 0 0 0", "j 0 0 0", "j 0 0 0").countStates());
+        Ticketdoor x = new Ticketdoor();
+        x.addWord(0, true, 9);
+        Check.withHands(x, "w 0 0", "r 0 0");
+        // 1 + 1 before, 10 reads while it is written, and the second moves: of 12 states that are written to the end
+        Check.due("ten reads", 1 + 1 + 1 + 10 + 1 + 11 - 1 + 1, x::countMoves);
+        Check.due("states", 4 + 2 + 2 * 9, x::countStates);
+    }
+
+    /** "from each, by rising numbers, by its moves in order": by hands, by values, then the buffer's, then the death. */
+    private static void numberedAsFound() {
+        Ticketdoor x = Check.withHands(Check.words(0), "d 0; w 0 0; z 0", "o");
+        x.setBuffers(true);
+        x.setDeath(0, 16);
+        String[] moves = {"", "0", "d0", "1", "0 0", "0 d0", "0 1", "d0 1", "0 0 0", "0 0 0:1", "0 0 b0", "0 0 1"};
+        for (int number = 0; number < moves.length; number++) {
+            int due = number;
+            x.start();
+            Check.moves(x, moves[number]);
+            Check.due("state by " + moves[number], due, x::getState);
+        }
+        String[] others = {"1 0", "0 d0", "0 0 d0", "1 d0"};
+        int[] numbers = {6, 5, 5, 7};
+        for (int index = 0; index < others.length; index++) {
+            int due = numbers[index];
+            x.start();
+            Check.moves(x, others[index]);
+            Check.due("the same state by " + others[index], due, x::getState);
+        }
+        Ticketdoor torn = new Ticketdoor();
+        torn.addWord(7, true, 3);
+        Check.withHands(torn, "r 0 0", "w 0 0");
+        Check.due("five before the reads, by hands", 2, () -> Check.moves(torn, "1").getState());
+        for (int value = 0; value <= 3; value++) {
+            int due = 4 + value;
+            torn.start();
+            Check.moves(torn, "1 0:" + value);
+            Check.due("a read of " + value, due, torn::getState);
+        }
+        torn.start();
+        Check.due("written to its end", 8, () -> Check.moves(torn, "1 1").getState());
+    }
+
+    /** Two ways to states that are alike but for one part: "values, next steps, registers, who is writing, ...". */
+    private static void toldByAllParts() {
+        Ticketdoor word = Check.withHands(Check.words(0), "z 0; w 0 0; k 0 0");
+        Check.due("the word's value", 1 + 2 + 2 + 2, word::countStates);
+        word.setBuffers(true);
+        Check.due("what is buffered", 1 + 2 + 4 + 4, word::countStates);
+        Ticketdoor order = Check.withHands(Check.words(0, 0), "z 0; = 0 1 5; w 1 1; w 1 0; j 0 0 8; w 1 0; w 1 1; j 0 0 8; k 0 0");
+        order.setBuffers(true);
+        Check.moves(order, "0:0 0 0 0 0 0");
+        int first = order.getState();
+        order.start();
+        Check.moves(order, "0:1 0 0 0 0 0");
+        Check.that("both by the same steps", order.getNext(0) == 9 && order.countBuffered(0) == 2);
+        Check.that("the order of what is buffered", order.getState() != first);
+        Ticketdoor dead = Check.hands("o; o");
+        dead.setDeath(0, 0);
+        Check.due("dead once", 3 + 3, dead::countStates);
+        Ticketdoor writing = new Ticketdoor();
+        writing.addWord(0, true, 1);
+        Check.due("who is writing", 9, () -> Check.withHands(writing, "w 0 0", "w 0 0").countStates());
+        Ticketdoor decided = Check.hands("d 0; j 0 0 0");
+        Check.due("nothing decided, and 0", 1 + 2, decided::countStates);
+        Check.due("the next step, also behind the last one", 1 + 17, () -> {
+            int states = 1;
+            for (int step = 0; step <= 16; step++) {
+                states += Check.hands("j 0 0 " + step).countStates() - 1 + (step == 0 ? 1 : 0);
+            }
+            return states;
+        });
+    }
+
+    /** "An end is a state without moves": none, one and many; not while a buffer has something. */
+    private static void endsWithoutMoves() {
+        Check.due("none", 0, () -> Check.hands("j 0 0 0", "o").countEnds());
+        Check.due("one", 1, () -> Check.hands("o", "o").countEnds());
+        Check.due("two", 2, () -> Check.hands("z 0", "o").countEnds());
+        Check.due("64", 64, () -> Check.hands("z 0; z 1; z 2", "z 0; z 1; z 2").countEnds());
+        Ticketdoor x = Check.withHands(Check.words(0), "w 0 0");
+        x.setBuffers(true);
+        Check.due("once its buffer is empty", 1, x::countEnds);
+        Ticketdoor dies = Check.hands("j 0 0 0");
+        dies.setDeath(0, 1);
+        Check.due("by its death alone", 1, dies::countEnds);
+    }
+
+    private static void insideNoneToThree() {
+        String[] programs = {"i; o", "t; o", "i"};
+        Check.due("none", 0, () -> Check.hands("t; o", "o", "h; i").mostInside());
+        Check.due("one", 1, () -> Check.hands("t", programs[0], "t").mostInside());
+        Check.due("two", 2, () -> Check.hands(programs).mostInside());
+        Check.due("three", 3, () -> Check.hands("i", "i", "i").mostInside());
+        Check.due("one of three at a time", 1, () -> Check.withHands(Check.words(1),
+                "s 0 0; < 0 1 3; j 0 0 3; o", "k 1 1; s 0 0; = 0 1 4; h; i; o; w 1 0",
+                "k 1 1; s 0 0; = 0 1 4; h; i; o; w 1 0").mostInside());
+    }
+
+    /** "`many`: 1 to 3", "in which just so many hands are inside". */
+    private static void rowsToEachMany() {
+        for (int hands = 0; hands <= 3; hands++) {
+            String[] programs = new String[hands];
+            java.util.Arrays.fill(programs, "i; o");
+            Ticketdoor x = Check.hands(programs);
+            for (int many : new int[] {Integer.MIN_VALUE, -1, 0, 1, 2, 3, 4, Integer.MAX_VALUE}) {
+                String what = many + " of " + hands;
+                Object due = many < 1 || many > 3 ? BAD : many > hands ? NONE : (Object) many;
+                Check.due("rowLength " + what, due, () -> x.rowLength(many));
+                Object mover = due == (Object) BAD || due == (Object) NONE ? due : (Object) (many - 1);
+                Check.due("rowAt " + what, mover, () -> x.rowAt(many, many - 1));
+                Check.due("rowAt behind the last " + what, due == (Object) BAD ? BAD : NONE, () -> x.rowAt(many, many));
+            }
+        }
+    }
+
+    /** "of the row to the lowest of those states to which the fewest moves lead". */
+    private static void rowsToTheLowest() {
+        Check.due("hand 0 of two that are alike", 0, () -> Check.hands("i", "i").rowAt(1, 0));
+        Check.due("hand 1, which needs fewer", 1, () -> Check.hands("o; i", "i").rowAt(1, 0));
+        Check.due("hand 2, which needs fewer", 2, () -> Check.hands("o; i", "o; i", "i").rowAt(1, 0));
+        Ticketdoor two = Check.hands("o; i", "i", "i");
+        Check.due("two inside by the shortest", 2, () -> two.rowLength(2));
+        Check.due("hand 1 first", 1, () -> two.rowAt(2, 0));
+        Check.due("then hand 2", 2, () -> two.rowAt(2, 1));
+        Ticketdoor toss = Check.hands("z 0; = 0 1 3; i; o; i");
+        Check.due("the toss of 0 leads there", 3, () -> toss.rowLength(1));
+        Ticketdoor death = Check.hands("j 0 0 0; i");
+        death.setDeath(0, 1);
+        Check.due("a death is a move of the row", 2, () -> death.rowLength(1));
+        Check.due("of its hand", 0, () -> death.rowAt(1, 0));
+        Ticketdoor buffer = Check.withHands(Check.words(0), "w 0 0; y; i", "o");
+        buffer.setBuffers(true);
+        Check.due("a buffer's move, too", 4, () -> buffer.rowLength(1));
+    }
+
+    /** "`index`: of the move, from 0", "if there is no such state, or move": the first, the last and those beside. */
+    private static void rowsOfAllLengths() {
+        for (int length = 1; length <= 16; length++) {
+            Ticketdoor x = Check.hands("o", idle(length - 1) + "i");
+            int due = length;
+            Check.due("row of " + length, due, () -> x.rowLength(1));
+            Check.due("its first move", 1, () -> x.rowAt(1, 0));
+            Check.due("its last move", 1, () -> x.rowAt(1, due - 1));
+            Check.due("behind it", NONE, () -> x.rowAt(1, due));
+            Check.due("ahead of it", NONE, () -> x.rowAt(1, -1));
+        }
+        Ticketdoor x = Check.hands(idle(9) + "i", idle(9) + "i", "i");
+        Check.due("a long one", 21, () -> {
+            x.dropSteps(0);
+            x.dropSteps(1);
+            Check.steps(x, 0, idle(7) + "i");
+            Check.steps(x, 1, idle(11) + "i");
+            return x.rowLength(3);
+        });
+        for (int index = 0; index < 21; index++) {
+            int at = index;
+            Check.due("move " + index, index < 8 ? 0 : index < 20 ? 1 : 2, () -> x.rowAt(3, at));
+        }
+        Check.due("no move 21", NONE, () -> x.rowAt(3, 21));
+    }
+
+    /** "Tells whether a word has a value in some end": each value, and not in another state, nor of another word. */
+    private static void wordsOfEnds() {
+        for (int number = 0; number < 10; number++) {
+            int last = number;
+            Ticketdoor x = Check.withHands(Check.words(3, 4, 5, 6, 7, 8), "k 0 " + (9 - last) + "; w 0 5; k 0 " + last + "; w 0 5");
+            for (int value = 0; value < 10; value++) {
+                int at = value;
+                Check.due("the last word's " + value, value == last, () -> x.canEnd(5, at));
+                Check.due("the first word's " + value, value == 3, () -> x.canEnd(0, at));
+            }
+        }
+        Ticketdoor none = Check.withHands(Check.words(1), "j 0 0 0");
+        Check.due("without an end", false, () -> none.canEnd(0, 1));
+        Check.due("without a word", INDEX, () -> Check.hands("o").canEnd(0, 0));
+        Check.due("below 0", BAD, () -> none.canEnd(0, -1));
+        Check.due("above 9", BAD, () -> none.canEnd(0, 10));
+    }
+
+    /** "Tells whether a register of a hand has a value in some end." */
+    private static void registersOfEnds() {
+        Ticketdoor x = Check.hands("k 0 1; k 1 2; k 2 3", "k 0 4; k 1 5; k 2 6", "k 0 7; k 1 8; k 2 9");
+        for (int index = 0; index < 9; index++) {
+            int hand = index / 3;
+            int register = index % 3;
+            for (int value = 0; value < 10; value++) {
+                int at = value;
+                Check.due("register " + register + " of " + hand + " is " + value, value == index + 1,
+                        () -> x.canKeep(hand, register, at));
+            }
+        }
+        Check.due("register below", BAD, () -> x.canKeep(2, -1, 0));
+        Check.due("register above", BAD, () -> x.canKeep(2, 3, 0));
+        Check.due("value below", BAD, () -> x.canKeep(2, 2, -1));
+        Check.due("value above", BAD, () -> x.canKeep(2, 2, 10));
+        Check.due("no hand 3", INDEX, () -> x.canKeep(3, 0, 0));
+        Check.due("without an end", false, () -> Check.hands("k 0 5; j 0 0 1").canKeep(0, 0, 5));
+    }
+
+    /** "Counts outcomes": ends that are alike in all registers are one, and each register counts. */
+    private static void unlikeOutcomes() {
+        Check.due("none", 0, () -> Check.hands("j 0 0 0").countOutcomes());
+        Check.due("one of two ends", 1, () -> {
+            Ticketdoor x = Check.hands("z 0; d 0; k 0 0");
+            Check.due("two ends", 2, x::countEnds);
+            return x.countOutcomes();
+        });
+        for (int hand = 0; hand < 3; hand++) {
+            for (int register = 0; register < 3; register++) {
+                String[] programs = {"k 0 9", "k 1 9", "k 2 9"};
+                programs[hand] = "z " + register;
+                Check.due("register " + register + " of " + hand, 2, () -> Check.hands(programs).countOutcomes());
+            }
+        }
+        Check.due("many", 64, () -> Check.hands("z 0; z 1; z 2", "", "z 0; z 1; z 2").countOutcomes());
+        Check.due("as many as registers tell", 8, () -> Check.hands(FOUR_TOSSES).countOutcomes());
+    }
+
+    /** "Returns the greatest value that a word has in some state": at first, between, and in no buffer. */
+    private static void greatestOfAllStates() {
+        for (int number = 0; number < 10; number++) {
+            int value = number;
+            Check.due("at first", value, () -> Check.words(value).greatest(0));
+            Ticketdoor x = Check.withHands(Check.words(0, 0), "k 0 " + value + "; w 0 1; k 0 0; w 0 1");
+            Check.due("between", value, () -> x.greatest(1));
+            Check.due("another word", 0, () -> x.greatest(0));
+        }
+        Check.due("round by 9", 9, () -> Check.withHands(Check.words(9), "f 0 0; h").greatest(0));
+        Ticketdoor dies = Check.withHands(Check.words(2), "k 0 8; w 0 0; y; j 0 0 3");
+        dies.setBuffers(true);
+        Check.due("once it went to it", 8, () -> dies.greatest(0));
+        Ticketdoor torn = new Ticketdoor();
+        torn.addWord(1, true, 9);
+        Check.due("what a read gives is no value of it", 1, () -> Check.withHands(torn, "w 1 0; h", "r 0 0").greatest(0));
+    }
+}
