@@ -145,6 +145,10 @@ public final class EdgesOfStatesTest {
             Check.due("mean", 0.0, x::meanMoves);
             Check.due("share", 0.0f, x::insideShare);
         }
+        Check.due("a word of the one end", true, () -> Check.words(1, 2).canEnd(1, 2));
+        Check.due("no other value of it", false, () -> Check.words(1, 2).canEnd(1, 1));
+        Check.due("a register of the one end", true, () -> Check.hands("", "").canKeep(1, 2, 0));
+        Check.due("no other value of it", false, () -> Check.hands("", "").canKeep(1, 2, 1));
     }
 
     /** "Returns how many, those to like states each." */
@@ -297,7 +301,10 @@ public final class EdgesOfStatesTest {
             Check.due("its first move", 1, () -> x.rowAt(1, 0));
             Check.due("its last move", 1, () -> x.rowAt(1, due - 1));
             Check.due("behind it", NONE, () -> x.rowAt(1, due));
+            Check.due("far behind it", NONE, () -> x.rowAt(1, 99));
+            Check.due("as far as can be", NONE, () -> x.rowAt(1, Integer.MAX_VALUE));
             Check.due("ahead of it", NONE, () -> x.rowAt(1, -1));
+            Check.due("far ahead of it", NONE, () -> x.rowAt(1, Integer.MIN_VALUE));
         }
         Ticketdoor x = Check.hands(idle(9) + "i", idle(9) + "i", "i");
         Check.due("a long one", 21, () -> {
@@ -368,6 +375,15 @@ public final class EdgesOfStatesTest {
             }
         }
         Check.due("many", 64, () -> Check.hands("z 0; z 1; z 2", "", "z 0; z 1; z 2").countOutcomes());
+        Ticketdoor torn = new Ticketdoor();
+        torn.addWord(0, true, 9);
+        Check.withHands(torn, "r 0 0", "w 0 0", "r 2 0");
+        Check.due("each value of each of two", 100, torn::countOutcomes);
+        torn.dropSteps(0);
+        torn.dropSteps(2);
+        Check.steps(torn, 2, "r 2 0; r 0 0");
+        Check.due("each value of each of one", 100, torn::countOutcomes);
+        Check.due("8 in one register", 2, () -> Check.hands("z 0; = 0 1 4; k 2 8; h; k 0 0").countOutcomes());
         Check.due("as many as registers tell", 8, () -> Check.hands(FOUR_TOSSES).countOutcomes());
     }
 

@@ -148,6 +148,12 @@ public final class EdgesOfWaitsTest {
         Ticketdoor dies = Check.withHands(Check.words(0), "i; i", "t; j 0 0 1");
         dies.setDeath(1, 16);
         Check.due("a death ends the try", 2, () -> dies.overtakes(0, 1));
+        for (int step = 0; step <= 3; step++) {
+            int next = step;
+            Ticketdoor anew = Check.hands("i; i; i; o", "t; o");
+            anew.setDeath(0, next);
+            Check.due("a death of its own goes on in the row", 6 - next, () -> anew.overtakes(0, 1));
+        }
         Check.due("its own try is nothing", 1, () -> Check.hands("t; i", "t").overtakes(0, 1));
         Check.due("the third one's try is nothing", 0, () -> Check.hands("i", "o", "t").overtakes(0, 1));
         Check.due("the third one's way inside is nothing", 1, () -> Check.hands("i", "t", "i; i").overtakes(0, 1));
