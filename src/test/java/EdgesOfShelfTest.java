@@ -21,6 +21,7 @@ public final class EdgesOfShelfTest {
         nothingIsZero();
         kindsAlone();
         takesAllStepsAway();
+        takesStepsOfOneHandAlone();
         setsBuffers();
         deathsMinusOneToSixteen();
         beginsARunAnew();
@@ -270,6 +271,24 @@ public final class EdgesOfShelfTest {
             Check.due("the new step is made", 1, () -> x.act(0, 0));
             Check.due("not an old one", false, () -> x.isInside(0));
             Check.due("9 now", 9, () -> x.getRegister(0, 0));
+        }
+    }
+
+    /** "Takes all steps of a hand away": of that one alone, with how many that one had. */
+    private static void takesStepsOfOneHandAlone() {
+        int[] counts = {3, 16, 1};
+        for (int number = 0; number < 3; number++) {
+            int hand = number;
+            Ticketdoor x = Check.hands("o; ".repeat(counts[0]), "o; ".repeat(counts[1]), "o; ".repeat(counts[2]));
+            Check.due("hand " + hand + " had", counts[hand], () -> x.dropSteps(hand));
+            for (int other = 0; other < 3; other++) {
+                int at = other;
+                Check.due("hand " + at + " has", at == hand ? 0 : counts[at], () -> x.countSteps(at));
+                Check.due("hand " + at + " goes on", at == hand ? CANNOT : (Object) 1, () -> {
+                    x.start();
+                    return x.act(at, 0);
+                });
+            }
         }
     }
 

@@ -15,6 +15,7 @@ public final class EdgesOfWaitsTest {
         whileThatOneIsTrying();
         fromAnyState();
         withoutABound();
+        eachPairForItself();
         handsOfOvertaking();
         decidedInEnds();
         twoValuesInOneEnd();
@@ -177,6 +178,23 @@ public final class EdgesOfWaitsTest {
         Check.due("a circle out of its try", 1, () -> Check.withHands(Check.words(0),
                 "r 0 0; = 0 1 0; i; k 0 0; w 0 0; j 0 0 0", "t; k 0 1; w 0 0; i; r 0 0; = 0 2 0; j 0 0 4").overtakes(0, 1));
         Check.due("no fair one is asked for", -1, () -> Check.hands("i; j 0 0 0", "t; i", "o").overtakes(0, 1));
+    }
+
+    /** Each hand goes inside as often as it does, whichever other one is trying. */
+    private static void eachPairForItself() {
+        Ticketdoor x = Check.hands("t; i", "t; i; i", "t; i; i; i");
+        Ticketdoor two = Check.hands("i; j 0 0 0", "t; o", "i; i");
+        int[] dueOfTwo = {-1, 0, 2};
+        for (int number = 0; number < 3; number++) {
+            int hand = number;
+            for (int other = 0; other < 3; other++) {
+                int at = other;
+                Check.due(hand + " overtakes " + at, at == hand ? BAD : (Object) (hand + 1), () -> x.overtakes(hand, at));
+            }
+            Check.due(hand + " overtakes the only one that tries", hand == 1 ? BAD : (Object) dueOfTwo[hand],
+                    () -> two.overtakes(hand, 1));
+            Check.due(hand + " overtakes one that never tries", hand == 2 ? BAD : (Object) 0, () -> two.overtakes(hand, 2));
+        }
     }
 
     /** "if there is no such hand, for either", "if both are the same". */
