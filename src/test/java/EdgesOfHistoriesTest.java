@@ -150,6 +150,10 @@ public final class EdgesOfHistoriesTest {
         orders(2, "w1 0 1", "w2 0 1");
         orders(3, "w1 0 4", "w2 5 9", "w3 0 9");
         orders(3, "w1 0 4", "w2 4 8", "w3 5 9");
+        orders(3, "w1 0 999", "w2 500 501", "w3 0 1");
+        orders(3, "w1 500 501", "w2 0 999", "w3 0 1");
+        orders(1, "w1 8 9", "w2 5 6", "w3 2 3");
+        orders(2, "w1 2 3", "w2 8 9", "w3 6 7", "w4 6 7");
     }
 
     /** "one word, 0 at first". */

@@ -223,6 +223,11 @@ public final class EdgesOfRunsTest {
         Check.due("the other one's", 0, () -> x.flush(1));
         Check.due("a hand without steps", NONE, () -> x.flush(2));
         Check.due("six moves", 6, x::start);
+        Ticketdoor two = Check.withHands(Check.words(0), "", "w 0 0; w 0 0", "w 0 0; w 0 0");
+        two.setBuffers(true);
+        Check.moves(two, "1 1 2");
+        Check.due("one is left of the second hand's", 1, () -> two.flush(1));
+        Check.due("none is left of the third one's", 0, () -> two.flush(2));
     }
 
     /** "Returns its next step." */

@@ -12,7 +12,10 @@ public final class EdgesOfStatesTest {
         atMostAThousand();
         eachCallAtAThousand();
         eachCallAboveAThousand();
+        waysThroughAThousand();
+        movesOfAThousand();
         outOfTheCrowdAndBack();
+        nothingOfOldEnds();
         countsWithoutHands();
         likeMovesEach();
         numberedAsFound();
@@ -109,6 +112,53 @@ public final class EdgesOfStatesTest {
         Check.due("isSound needs them not", true, x::isSound);
         Check.due("movesAlone", -1, () -> x.movesAlone(0));
         Check.due("act", 1, () -> x.act(2, 0));
+    }
+
+    /** What leads through the last states as well as through the first ones. */
+    private static void waysThroughAThousand() {
+        Ticketdoor decided = Check.hands(idle(8) + "d 0", "k 1 9; " + idle(7) + "d 1", idle(9));
+        Check.due("a thousand", 1000, decided::countStates);
+        Check.due("all undecided, as there is one end", 1000, decided::countUndecided);
+        Ticketdoor entered = Check.hands(idle(8) + "i", "t; " + idle(8), idle(9));
+        Check.due("overtaken by the last move", 1, () -> entered.overtakes(0, 1));
+        Check.due("inside in a tenth of all", 100.0f / 1000.0f, entered::insideShare);
+        Ticketdoor never = Check.hands(idle(8) + "i", "t; " + idle(7) + "h", idle(8) + "h");
+        Check.due("no waits for ever in ways that end", false,
+                () -> never.canStarve(0) || never.canStarve(1) || never.canStarve(2));
+        Ticketdoor ever = Check.hands(idle(9), "t; " + idle(7) + "j 0 0 8", idle(9));
+        Check.due("900", 900, ever::countStates);
+        Check.due("waits in the last state alone", true, () -> ever.canStarve(1));
+    }
+
+    /** Up to ten reads of each of two hands in as many as 400 states: some thousands of moves are not too many. */
+    private static void movesOfAThousand() {
+        Ticketdoor x = new Ticketdoor();
+        x.addWord(0, true, 9);
+        Check.withHands(x, "w 0 0", "r 0 0; j 0 0 0", "r 0 0; j 0 0 0");
+        Check.due("4 before, 400 while it is written, 400 behind it", 4 + 400 + 400, x::countStates);
+        int whileWritten = 400 + 2 * (200 * 10 + 200);
+        Check.due("moves", 4 + 2 * 4 + whileWritten + 2 * 400, x::countMoves);
+        Check.due("no end", 0, x::countEnds);
+    }
+
+    /** Ends that were found before, with more states, are none any more. */
+    private static void nothingOfOldEnds() {
+        Ticketdoor x = Check.withHands(Check.words(3), idle(6));
+        Check.due("the word of the old end", true, () -> x.canEnd(0, 3));
+        x.dropSteps(0);
+        Check.steps(x, 0, "k 0 9; z 1; k 1 0; w 0 0");
+        Check.due("six states", 6, x::countStates);
+        Check.due("six moves", 6, x::countMoves);
+        Check.due("the word of the new end", true, () -> x.canEnd(0, 9));
+        Check.due("not of the old one", false, () -> x.canEnd(0, 3));
+        Ticketdoor y = Check.hands(idle(5));
+        Check.due("the register of the old end", true, () -> y.canKeep(0, 0, 0));
+        y.dropSteps(0);
+        Check.steps(y, 0, "k 0 9; z 1; k 1 0");
+        Check.due("five states", 5, y::countStates);
+        Check.due("the register of the new end", true, () -> y.canKeep(0, 0, 9));
+        Check.due("not of the old one", false, () -> y.canKeep(0, 0, 0));
+        Check.due("no state beside the one", false, () -> Check.words(1, 2).canEnd(1, 0));
     }
 
     /** The same object, with more and with less: what is found is found anew. */
@@ -239,6 +289,16 @@ public final class EdgesOfStatesTest {
         Ticketdoor x = Check.withHands(Check.words(0), "w 0 0");
         x.setBuffers(true);
         Check.due("once its buffer is empty", 1, x::countEnds);
+        for (int hand = 0; hand < 3; hand++) {
+            String[] programs = {"", "", ""};
+            programs[hand] = "k 0 7; w 0 0";
+            Ticketdoor each = Check.withHands(Check.words(2), programs);
+            each.setBuffers(true);
+            Check.due("hand " + hand + " writes: states", 4, each::countStates);
+            Check.due("hand " + hand + " writes: moves", 3, each::countMoves);
+            Check.due("hand " + hand + " writes: ends", 1, each::countEnds);
+            Check.due("hand " + hand + " wrote", true, () -> each.canEnd(0, 7) && !each.canEnd(0, 2));
+        }
         Ticketdoor dies = Check.hands("j 0 0 0");
         dies.setDeath(0, 1);
         Check.due("by its death alone", 1, dies::countEnds);
@@ -250,6 +310,11 @@ public final class EdgesOfStatesTest {
         Check.due("one", 1, () -> Check.hands("t", programs[0], "t").mostInside());
         Check.due("two", 2, () -> Check.hands(programs).mostInside());
         Check.due("three", 3, () -> Check.hands("i", "i", "i").mostInside());
+        for (int value = 0; value < 10; value++) {
+            Ticketdoor full = Check.withHands(Check.words(value, value, value, value, value, value), "i", "t", "o");
+            Check.due("one, with words of " + value, 1, full::mostInside);
+            Check.due("half of all", 0.5f, full::insideShare);
+        }
         Check.due("one of three at a time", 1, () -> Check.withHands(Check.words(1),
                 "s 0 0; < 0 1 3; j 0 0 3; o", "k 1 1; s 0 0; = 0 1 4; h; i; o; w 1 0",
                 "k 1 1; s 0 0; = 0 1 4; h; i; o; w 1 0").mostInside());
@@ -385,6 +450,30 @@ public final class EdgesOfStatesTest {
         Check.due("each value of each of one", 100, torn::countOutcomes);
         Check.due("8 in one register", 2, () -> Check.hands("z 0; = 0 1 4; k 2 8; h; k 0 0").countOutcomes());
         Check.due("as many as registers tell", 8, () -> Check.hands(FOUR_TOSSES).countOutcomes());
+        for (int hand = 0; hand < 3; hand++) {
+            for (int register = 0; register < 9; register++) {
+                String[] programs = {"r " + register / 3 + " 0", "r " + register % 3 + " 0", "w 0 0"};
+                java.util.Collections.rotate(java.util.Arrays.asList(programs), hand);
+                Ticketdoor pair = new Ticketdoor();
+                pair.addWord(0, true, 9);
+                Check.due("each value of two registers " + register, 100, () -> Check.withHands(pair, programs).countOutcomes());
+            }
+        }
+        outcomesOfRegistersAlone();
+    }
+
+    /** "rows of the registers of all hands": not of marks, next steps, words or what was decided. */
+    private static void outcomesOfRegistersAlone() {
+        String[] unlike = {"i", "t", "d 0", "j 0 0 9", "f 2 0", "f 2 1", "f 2 2", "f 2 3", "f 2 4", "f 2 5"};
+        for (String step : unlike) {
+            for (int hand = 0; hand < 3; hand++) {
+                String[] programs = {"", "", ""};
+                programs[hand] = "z 0; = 0 1 4; k 0 0; " + step + "; h";
+                Ticketdoor x = Check.withHands(Check.words(0, 0, 0, 0, 0, 0), programs);
+                Check.due("two ends with or without " + step, 2, x::countEnds);
+                Check.due("one outcome with or without " + step, 1, x::countOutcomes);
+            }
+        }
     }
 
     /** "Returns the greatest value that a word has in some state": at first, between, and in no buffer. */

@@ -327,6 +327,16 @@ public final class EdgesOfStepsTest {
         Check.due("the newer one of the word", 6, () -> readOf("k 0 5; w 0 1; k 0 6; w 0 0", 4));
         Check.due("none of two", 1, () -> readOf("k 0 5; w 0 1; k 0 6; w 0 2", 4));
         Check.due("a 0 of the buffer", 0, () -> readOf("k 0 5; w 0 0; k 0 0; w 0 0", 4));
+        for (int number = 0; number < 3; number++) {
+            int word = number;
+            Ticketdoor each = buffered("k 0 5; w 0 " + (word + 1) % 3 + "; k 0 6; w 0 " + word + "; r 2 0; r 2 1; r 2 2");
+            Check.moves(each, "0 0 0 0");
+            for (int read = 0; read < 3; read++) {
+                int due = read == word ? 6 : read == (word + 1) % 3 ? 5 : read + 1;
+                Check.moves(each, "0");
+                Check.due("word " + read + " of a buffer with word " + word, due, () -> each.getRegister(0, 2));
+            }
+        }
         Ticketdoor x = buffered("k 0 5; w 0 0; k 0 6; w 0 0; r 2 0; r 2 0", "k 1 7; s 1 0");
         Check.moves(x, "0 0 0 0 b0 0");
         Check.due("one is left of two", 6, () -> x.getRegister(0, 2));

@@ -85,6 +85,9 @@ public final class EdgesOfWaitsTest {
             Check.due("it ended trying", true, () -> Check.hands("t; " + end, "j 0 0 0").canStarve(0));
             Check.due("all ended", false, () -> Check.hands("t; " + end, end).canStarve(0));
         }
+        Check.due("two of three ended", true, () -> Check.hands("", "t; j 0 0 1", "h").canStarve(1));
+        Check.due("the first two ended", true, () -> Check.hands("", "h", "t; j 0 0 1").canStarve(2));
+        Check.due("the last two ended", true, () -> Check.hands("t; j 0 0 1", "h", "").canStarve(0));
         Ticketdoor dies = Check.withHands(Check.words(0), "t; r 0 0; = 0 1 1; i", "k 0 1; w 0 0");
         Check.due("it cannot die", false, () -> dies.canStarve(0));
         dies.setDeath(1, 2);
@@ -105,6 +108,12 @@ public final class EdgesOfWaitsTest {
         Check.due("it has ended with its buffer", true, () -> x.canStarve(0));
         x.addStep(1, 'j', 0, 0, 2);
         Check.due("it goes on with its buffer", true, () -> x.canStarve(0));
+        String[] waiting = {"w 0 0; y; j 0 0 0", "j 0 0 2; w 0 0; y; j 0 0 1", "y; w 0 0; j 0 0 0", "y; y; w 0 0; j 0 0 1"};
+        for (String program : waiting) {
+            Ticketdoor turns = Check.withHands(Check.words(0), "t; j 0 0 1", program);
+            turns.setBuffers(true);
+            Check.due("a move by its step in some of the states: " + program, true, () -> turns.canStarve(0));
+        }
     }
 
     private static void handsOfWaits() {
@@ -163,6 +172,14 @@ public final class EdgesOfWaitsTest {
     /** "from any state that can be come to": not from the first one alone, nor from where the try begins. */
     private static void fromAnyState() {
         Check.due("from the first one it is not trying", 1, () -> Check.hands("o; o; i", "o; o; t").overtakes(0, 1));
+        for (int idle = 0; idle < 6; idle++) {
+            Ticketdoor flushed = Check.withHands(Check.words(0), "o; ".repeat(idle) + "w 0 0; y; i; i", "t");
+            flushed.setBuffers(true);
+            Check.due("behind its buffer's move and " + idle, 2, () -> flushed.overtakes(0, 1));
+            Ticketdoor other = Check.withHands(Check.words(0), "k 1 1; r 0 0; = 0 1 4; h; i; i", "o; ".repeat(idle) + "t; k 0 1; w 0 0");
+            other.setBuffers(true);
+            Check.due("behind the other one's buffer's move and " + idle, 2, () -> other.overtakes(0, 1));
+        }
         Check.due("from behind a toss", 2, () -> Check.hands("i; i", "z 0; = 0 1 4; t; h; o").overtakes(0, 1));
         Ticketdoor never = Check.withHands(Check.words(0), "r 0 0; k 1 5; = 0 1 4; h; i; i", "t");
         Check.due("a state that cannot be come to", 0, () -> never.overtakes(0, 1));
@@ -234,6 +251,18 @@ public final class EdgesOfWaitsTest {
         Check.due("nothing", false, () -> Check.hands("k 0 1").canDecide(0));
         Check.due("no end", false, () -> Check.hands("d 0; j 0 0 1").canDecide(0));
         Check.due("no hand", false, () -> new Ticketdoor().canDecide(0));
+        for (int value = 0; value < 10; value++) {
+            int at = value;
+            Ticketdoor full = Check.withHands(Check.words(value, value, value, value, value, value), "", "o", "k 0 9; d 0");
+            Check.due("a word's value is not decided", value == 9, () -> full.canDecide(at));
+            Check.due("nor is another one", 1, () -> {
+                int decided = 0;
+                for (int other = 0; other < 10; other++) {
+                    decided += full.canDecide(other) ? 1 : 0;
+                }
+                return decided;
+            });
+        }
         Ticketdoor x = Check.hands("k 0 3; d 0; j 0 0 2");
         x.setDeath(0, 16);
         Check.due("what it decided stays", true, () -> x.canDecide(3));
@@ -260,6 +289,13 @@ public final class EdgesOfWaitsTest {
         Check.due("no end", 0, () -> Check.hands("z 0; d 0; j 0 0 2").countUndecided());
         Check.due("in several", 1, () -> Check.hands("z 0; d 0").countUndecided());
         Check.due("in several, later", 3, () -> Check.hands("o; o; z 0; d 0").countUndecided());
+        Check.due("in several, by one of two tosses", 1, () -> Check.hands("z 0; z 1; d 0").countUndecided());
+        Check.due("in several, by the second toss", 3, () -> Check.hands("z 1; z 0; d 0").countUndecided());
+        Check.due("in several, by one of three tosses", 1, () -> Check.hands("z 0; z 1; z 2; d 0").countUndecided());
+        Ticketdoor asked = Check.hands("i; i; i; d 0", "t; d 0");
+        Check.due("asked for overtaking ahead of it", 3, () -> asked.overtakes(0, 1));
+        Check.due("none, as before", 0, asked::countUndecided);
+        Check.due("asked for overtaking behind it", 3, () -> asked.overtakes(0, 1));
         Check.due("in several that are alike", 0, () -> Check.hands("z 0; d 1").countUndecided());
         Check.due("in one, the end itself too", 4 + 2, () -> Check.hands("d 0", "k 0 1; d 0").countUndecided());
         Check.due("one decides, one nothing", 0, () -> Check.hands("z 0; = 0 1 3; h; d 0").countUndecided());
