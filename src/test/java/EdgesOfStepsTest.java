@@ -20,6 +20,7 @@ public final class EdgesOfStepsTest {
         triesAndGoes();
         writesOfSafeWords();
         readsWhileWritten();
+        readsOfOtherWords();
         wholeWhileWritten();
         roomOfTwo();
         newestOrWord();
@@ -257,6 +258,27 @@ public final class EdgesOfStepsTest {
         Check.due("written by both, one", NONE, () -> x.act(1, 1));
         Check.moves(x, "1");
         Check.due("its new value", 0, () -> x.getRegister(1, 0));
+    }
+
+    /** The one word that is written gives anything, the other safe ones give what they are. */
+    private static void readsOfOtherWords() {
+        for (int number = 0; number < 6; number++) {
+            int written = number;
+            Ticketdoor x = new Ticketdoor();
+            for (int word = 0; word < 6; word++) {
+                x.addWord(9 - word, true, word + 1);
+            }
+            Check.withHands(x, "w 0 " + written, "r 0 0; r 0 1; r 0 2; r 0 3; r 0 4; r 0 5");
+            Check.moves(x, "0");
+            for (int read = 0; read < 6; read++) {
+                int word = read;
+                int last = word == written ? word + 1 : 0;
+                Check.due("word " + word + ", no more of it", NONE, () -> x.act(1, last + 1));
+                Check.moves(x, "1:" + last);
+                Check.due("word " + word + " while " + written + " is written", word == written ? last : 9 - word,
+                        () -> x.getRegister(1, 0));
+            }
+        }
     }
 
     /** A whole word is whole while a safe one is written; "Exchanges, 'n' and 'f' are whole on all words." */

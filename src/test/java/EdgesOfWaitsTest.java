@@ -292,6 +292,11 @@ public final class EdgesOfWaitsTest {
         Check.due("in several, by one of two tosses", 1, () -> Check.hands("z 0; z 1; d 0").countUndecided());
         Check.due("in several, by the second toss", 3, () -> Check.hands("z 1; z 0; d 0").countUndecided());
         Check.due("in several, by one of three tosses", 1, () -> Check.hands("z 0; z 1; z 2; d 0").countUndecided());
+        for (int idle = 0; idle < 6; idle++) {
+            Ticketdoor flushed = Check.withHands(Check.words(5), "o; ".repeat(idle) + "z 0; d 0; w 0 0");
+            flushed.setBuffers(true);
+            Check.due("in several, behind their buffers' moves and " + idle, idle + 1, flushed::countUndecided);
+        }
         Ticketdoor asked = Check.hands("i; i; i; d 0", "t; d 0");
         Check.due("asked for overtaking ahead of it", 3, () -> asked.overtakes(0, 1));
         Check.due("none, as before", 0, asked::countUndecided);
