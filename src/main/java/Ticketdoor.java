@@ -1318,23 +1318,24 @@ public final class Ticketdoor {
         int fitting() {
             if (!isCounted) {
                 hasFirst = false;
-                orders = ordersBehind(0, 0, 0L);
+                orders = ordersBehind(this, 0, 0, 0L);
                 isCounted = true;
             }
             return orders;
         }
 
-        private int ordersBehind(int placed, int used, long held) {
-            if (placed >= size) {
-                keepFirst();
+        /** Goes no deeper than there are calls, six at most. */
+        private static int ordersBehind(History history, int placed, int used, long held) {
+            if (placed >= history.size) {
+                history.keepFirst();
                 return 1;
             }
             int many = 0;
-            for (int call = 0; call < size; call++) {
-                long after = isFree(call, used) ? afterCall(call, held) : NO_FIT;
+            for (int call = 0; call < history.size; call++) {
+                long after = history.isFree(call, used) ? history.afterCall(call, held) : NO_FIT;
                 if (after != NO_FIT) {
-                    trial[placed] = call;
-                    many += ordersBehind(placed + 1, used | 1 << call, after);
+                    history.trial[placed] = call;
+                    many += ordersBehind(history, placed + 1, used | 1 << call, after);
                 }
             }
             return many;

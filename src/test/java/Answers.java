@@ -29,12 +29,13 @@ final class Answers {
         return all.text.toString();
     }
 
-    /** Asks, and then takes the object apart to see what no question shows. */
+    /** Asks, and then takes the object apart to see what no question shows: some 260 calls. */
     static String shown(Ticketdoor x) {
         Answers all = new Answers();
         all.text.append(asked(x));
         all.walkOn(x);
         all.put("start", x::start);
+        all.text.append(asked(x));
         all.walkOn(x);
         all.put("dropCalls", x::dropCalls);
         all.put("addCall", () -> x.addCall('w', 1, 0, 1));

@@ -300,6 +300,14 @@ public final class EdgesOfHistoriesTest {
         Check.due("of a thousand", 2700.0 / 1000.0,
                 () -> Check.hands("o; ".repeat(9), "o; ".repeat(9), "o; ".repeat(9)).meanMoves());
         Check.due("too many", MANY, () -> Check.hands("o; ".repeat(9), "o; ".repeat(9), "o; ".repeat(10)).meanMoves());
+        Ticketdoor dies = Check.hands("o; o");
+        dies.setDeath(0, 2);
+        Check.due("its death is a move, too", (2 + 2 + 0 + 0) / 4.0, dies::meanMoves);
+        Ticketdoor writes = Check.withHands(Check.words(0), "w 0 0; o");
+        writes.setBuffers(true);
+        Check.due("and its buffer's", (1 + 2 + 1 + 1 + 0) / 5.0, writes::meanMoves);
+        Check.due("and each of a toss", (2 + 1 + 1 + 0 + 0) / 5.0, () -> Check.hands("z 0; o").meanMoves());
+        Check.due("and those to like states", 2.0, () -> Check.hands("j 0 0 0", "j 0 0 0").meanMoves());
     }
 
     private static long sum(long... numbers) {

@@ -84,6 +84,17 @@ public final class EdgesOfRunsTest {
         Check.due("a death would lead inside", -1, () -> x.movesAlone(0));
         Check.due("it would before its end, too", -1, () -> x.movesAlone(1));
         Check.due("it would be longer", 2, () -> x.movesAlone(2));
+        String[] waiting = {"w 0 0; y; o; i", "w 0 0; s 0 0; o; i", "w 0 0; n 0 0 0; o; i", "w 0 0; f 0 0; o; i"};
+        for (String program : waiting) {
+            Ticketdoor waits = Check.withHands(Check.words(0), program);
+            waits.setBuffers(true);
+            waits.setDeath(0, 3);
+            Check.due("a death instead of its buffer's move would be shorter: " + program, 5, () -> waits.movesAlone(0));
+        }
+        Ticketdoor fills = Check.withHands(Check.words(0), "w 0 0; w 0 0; w 0 0; o; i");
+        fills.setBuffers(true);
+        fills.setDeath(0, 4);
+        Check.due("a death instead of room would be shorter", 6, () -> fills.movesAlone(0));
     }
 
     /** "its buffer going on only if its step cannot be made": none, one, two and three writes. */
@@ -368,5 +379,12 @@ public final class EdgesOfRunsTest {
             Check.due("call " + call, due, () -> x.act(0, 0));
         }
         Check.due("call 512", 509, x::start);
+        Ticketdoor y = new Ticketdoor();
+        y.addHand();
+        y.addStep(0, 'j', 0, 0, 0);
+        for (int call = 3; call <= 511; call += 2) {
+            y.act(0, 0);
+            Check.due("behind " + call + " calls", true, y::isSound);
+        }
     }
 }

@@ -19,6 +19,7 @@ public final class EdgesOfStatesTest {
         countsWithoutHands();
         likeMovesEach();
         numberedAsFound();
+        stepBufferDeath();
         toldByAllParts();
         endsWithoutMoves();
         insideNoneToThree();
@@ -247,6 +248,30 @@ public final class EdgesOfStatesTest {
         }
         torn.start();
         Check.due("written to its end", 8, () -> Check.moves(torn, "1 1").getState());
+    }
+
+    /** "of a hand by its step, by what comes of that, ..., then that of its buffer, then its death". */
+    private static void stepBufferDeath() {
+        Ticketdoor x = Check.withHands(Check.words(5), "w 0 0; d 0; z 1");
+        x.setBuffers(true);
+        x.setDeath(0, 16);
+        String[] moves = {"", "0", "d0", "0 0", "0 b0", "0 0 0:0", "0 0 0:1", "0 0 b0", "0 0 d0"};
+        for (int number = 0; number < moves.length; number++) {
+            int due = number;
+            x.start();
+            Check.moves(x, moves[number]);
+            Check.due("state by " + moves[number], due, x::getState);
+        }
+        Ticketdoor two = Check.withHands(Check.words(5), "", "w 0 0; d 0; z 1", "k 0 1; o");
+        two.setBuffers(true);
+        two.setDeath(1, 16);
+        String[] ways = {"", "1", "d1", "2", "1 1", "1 b1", "1 2", "2 d1", "2 2", "1 1 1:0", "1 1 1:1", "1 1 b1", "1 1 d1", "1 1 2"};
+        for (int number = 0; number < ways.length; number++) {
+            int due = number;
+            two.start();
+            Check.moves(two, ways[number]);
+            Check.due("state of two by " + ways[number], due, two::getState);
+        }
     }
 
     /** Two ways to states that are alike but for one part: "values, next steps, registers, who is writing, ...". */

@@ -21,7 +21,9 @@ public final class EdgesOfStepsTest {
         writesOfSafeWords();
         readsWhileWritten();
         readsOfOtherWords();
+        readsWhileTwoAreWritten();
         wholeWhileWritten();
+        valuesAboveTheGreatest();
         roomOfTwo();
         newestOrWord();
         onlyWithAnEmptyBuffer();
@@ -31,6 +33,7 @@ public final class EdgesOfStepsTest {
         diesUntilItsEnd();
         whatDeathTakes();
         deathWhileWriting();
+        valuesBeforeADeath();
         Check.finish("EdgesOfStepsTest");
     }
 
@@ -281,18 +284,69 @@ public final class EdgesOfStepsTest {
         }
     }
 
+    /** "that another hand is writing": two hands write two words, by any of the hands. */
+    private static void readsWhileTwoAreWritten() {
+        for (int number = 0; number < 3; number++) {
+            int reader = number;
+            String[] programs = {"w 0 0", "w 0 1", "r 0 0; r 1 1; r 2 2"};
+            java.util.Collections.rotate(java.util.Arrays.asList(programs), reader + 1);
+            Ticketdoor x = new Ticketdoor();
+            x.addWord(7, true, 3);
+            x.addWord(8, true, 4);
+            x.addWord(9, true, 5);
+            Check.withHands(x, programs);
+            Check.moves(x, (reader + 1) % 3 + " " + (reader + 2) % 3);
+            Check.due("no more than the first word's greatest", NONE, () -> x.act(reader, 4));
+            Check.moves(x, reader + ":3");
+            Check.due("the first word's greatest", 3, () -> x.getRegister(reader, 0));
+            Check.due("no more than the second word's greatest", NONE, () -> x.act(reader, 5));
+            Check.moves(x, reader + ":4");
+            Check.due("the second word's greatest", 4, () -> x.getRegister(reader, 1));
+            Check.due("the third word is not written", NONE, () -> x.act(reader, 1));
+            Check.moves(x, reader + ":0");
+            Check.due("its value", 9, () -> x.getRegister(reader, 2));
+        }
+    }
+
     /** A whole word is whole while a safe one is written; "Exchanges, 'n' and 'f' are whole on all words." */
     private static void wholeWhileWritten() {
-        Ticketdoor x = safe(5, 9, "w 0 0", "r 0 1; f 1 0; s 2 0; k 0 0; n 0 0 0; w 2 1");
-        Check.moves(x, "0");
-        for (int move = 0; move < 6; move++) {
-            Check.due("one choice alone of step " + move, NONE, () -> x.act(1, 1));
-            Check.moves(x, "1");
+        for (int number = 1; number <= 9; number++) {
+            Ticketdoor x = safe(5, number, "w 0 0", "r 0 1; f 1 0; s 2 0; k 0 0; n 0 0 0; w 2 1");
+            Check.moves(x, "0");
+            for (int move = 0; move < 6; move++) {
+                Check.due("one choice alone of step " + move, NONE, () -> x.act(1, 1));
+                Check.moves(x, "1");
+            }
+            Check.due("f gave the value", 5, () -> x.getRegister(1, 1));
+            Check.due("s gave one more", 6, () -> x.getRegister(1, 2));
+            Check.due("n found the 0 of s", 1, () -> x.getRegister(1, 0));
+            Check.due("w wrote the whole word", 6, () -> x.getWord(1));
         }
-        Check.due("f gave the value", 5, () -> x.getRegister(1, 1));
-        Check.due("s gave one more", 6, () -> x.getRegister(1, 2));
-        Check.due("n found the 0 of s", 1, () -> x.getRegister(1, 0));
-        Check.due("w wrote the whole word", 6, () -> x.getWord(1));
+    }
+
+    /** The greatest value is for reads of a word while it is written: its values are 0 to 9, however they come there. */
+    private static void valuesAboveTheGreatest() {
+        for (int number = 0; number < 10; number++) {
+            int value = number;
+            Ticketdoor x = safe(value, 1, "r 0 0; f 1 0; s 1 0; k 2 9; n 1 0 2; k 0 " + value + "; w 0 0; r 2 0");
+            Check.moves(x, "0");
+            Check.due("read", value, () -> x.getRegister(0, 0));
+            Check.moves(x, "0");
+            Check.due("f gave it", value, () -> x.getRegister(0, 1));
+            Check.due("one more, modulo 10", value == 9 ? 0 : value + 1, () -> x.getWord(0));
+            Check.moves(x, "0");
+            Check.due("s wrote it", value, () -> x.getWord(0));
+            Check.due("s gave one more", value == 9 ? 0 : value + 1, () -> x.getRegister(0, 1));
+            Check.moves(x, "0 0");
+            Check.due("n did not find it", 0, () -> x.getRegister(0, 1));
+            Check.due("so that it stays", value, () -> x.getWord(0));
+            Check.moves(x, "0 0 0 0");
+            Check.due("written and read", value, () -> x.getRegister(0, 2));
+            Ticketdoor found = safe(value, 1, "k 0 " + value + "; k 2 9; n 0 0 2");
+            Check.moves(found, "0 0 0");
+            Check.due("n found it", 1, () -> found.getRegister(0, 0));
+            Check.due("and made it 9", 9, () -> found.getWord(0));
+        }
     }
 
     private static Ticketdoor buffered(String... programs) {
@@ -511,5 +565,44 @@ public final class EdgesOfStepsTest {
         Check.moves(x, "0 0 2 d0");
         Check.moves(x, "1:9");
         Check.due("another one is writing still", 9, () -> x.getRegister(1, 0));
+    }
+
+    /** "what it was writing has the value as before": not that of the first state, nor that of the register, nor 0. */
+    private static void valuesBeforeADeath() {
+        Ticketdoor own = safe(6, 9, "k 0 2; w 0 0; k 0 4; w 0 0; w 0 1; o");
+        own.setDeath(0, 5);
+        Check.moves(own, "0 0 0 0 0 d0");
+        Check.due("what it wrote before", 2, () -> own.getWord(0));
+        Check.due("the other word", 6, () -> own.getWord(1));
+        Check.due("among the states that were found", true, () -> own.getState() > 0);
+        Ticketdoor other = safe(6, 9, "k 0 2; w 0 0; w 0 0", "k 0 3; w 0 0; s 1 0");
+        other.setDeath(0, 2);
+        Check.moves(other, "1 1 1 0 0 d0");
+        Check.due("what another one wrote before", 3, () -> other.getWord(0));
+        other.start();
+        Check.moves(other, "0 0 1 1 1 d0");
+        Check.due("what another one wrote meanwhile", 3, () -> other.getWord(0));
+        other.start();
+        Check.moves(other, "0 0 1 1 1 1 d0");
+        Check.due("what another one exchanged meanwhile", 0, () -> other.getWord(0));
+        Check.due("the value that was exchanged", 3, () -> other.getRegister(1, 1));
+        other.start();
+        Check.moves(other, "0 0 0 0 d0");
+        Check.due("what it wrote itself, at the same word", 2, () -> other.getWord(0));
+        for (int number = 0; number < 10; number++) {
+            int value = number;
+            Ticketdoor each = safe(value, 1, "k 0 " + (9 - value) + "; w 0 0");
+            each.setDeath(0, 16);
+            Check.moves(each, "0 0 d0");
+            Check.due("each value", value, () -> each.getWord(0));
+            Check.due("an end with the value as before", true, () -> each.canEnd(0, value) && each.canEnd(0, 9 - value));
+            Check.due("and none with another", 2, () -> {
+                int ends = 0;
+                for (int at = 0; at < 10; at++) {
+                    ends += each.canEnd(0, at) ? 1 : 0;
+                }
+                return ends;
+            });
+        }
     }
 }

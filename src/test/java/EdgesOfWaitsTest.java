@@ -14,6 +14,7 @@ public final class EdgesOfWaitsTest {
         oftenAsItGoesInside();
         whileThatOneIsTrying();
         fromAnyState();
+        byAnyHandsMovesBetween();
         withoutABound();
         eachPairForItself();
         handsOfOvertaking();
@@ -183,6 +184,30 @@ public final class EdgesOfWaitsTest {
         Check.due("from behind a toss", 2, () -> Check.hands("i; i", "z 0; = 0 1 4; t; h; o").overtakes(0, 1));
         Ticketdoor never = Check.withHands(Check.words(0), "r 0 0; k 1 5; = 0 1 4; h; i; i", "t");
         Check.due("a state that cannot be come to", 0, () -> never.overtakes(0, 1));
+    }
+
+    /** "in a row of moves": of all hands, so that one goes inside again behind what another one must do between. */
+    private static void byAnyHandsMovesBetween() {
+        String twice = "i; k 0 1; w 0 0; r 1 1; = 1 0 6; j 0 0 3; i; h";
+        String answers = "r 0 0; = 0 1 0; k 0 1; w 0 1";
+        Check.due("the third one answers", 2,
+                () -> Check.withHands(Check.words(0, 0), twice, "t", answers).overtakes(0, 1));
+        Check.due("the third one answers, the other way", 2,
+                () -> Check.withHands(Check.words(0, 0), answers, "t", twice).overtakes(2, 1));
+        String asks = "t; r 0 0; = 0 1 1; k 0 1; w 0 1";
+        Check.due("the overtaken one answers", 2, () -> Check.withHands(Check.words(0, 0), twice, asks).overtakes(0, 1));
+        Check.due("the overtaken one answers, the other way", 2,
+                () -> Check.withHands(Check.words(0, 0), asks, twice).overtakes(1, 0));
+        Check.due("the overtaken one answers, and tries no more", 1,
+                () -> Check.withHands(Check.words(0, 0), twice, asks.replace("k 0 1", "i; k 0 1")).overtakes(0, 1));
+        Check.due("nobody answers", 1, () -> Check.withHands(Check.words(0, 0), twice, "t", "o").overtakes(0, 1));
+        Ticketdoor buffered = Check.withHands(Check.words(0, 0), twice, "t; r 0 0; = 0 1 1; k 0 1; w 0 1; h");
+        buffered.setBuffers(true);
+        Check.due("both buffers' moves between", 2, () -> buffered.overtakes(0, 1));
+        Ticketdoor dies = Check.withHands(Check.words(0, 0), twice, "t", "r 0 0; = 0 1 0; j 0 0 2; k 0 1; w 0 1");
+        Check.due("the third one is caught", 1, () -> dies.overtakes(0, 1));
+        dies.setDeath(2, 3);
+        Check.due("its death between", 2, () -> dies.overtakes(0, 1));
     }
 
     /** "-1 without a bound": a circle with an 'i' in it, and one without. */
