@@ -18,13 +18,13 @@ final class Answers {
     /** Asks without changing anything, by some eighty calls. */
     static String asked(Ticketdoor x) {
         Answers all = new Answers();
+        all.put("checksum", x::checksum);
+        all.askHistory(x);
         all.askShelf(x);
         for (int hand = 0; hand < 3; hand++) {
             all.askHand(x, hand);
         }
         all.askStates(x);
-        all.askHistory(x);
-        all.put("checksum", x::checksum);
         all.put("isSound", x::isSound);
         return all.text.toString();
     }

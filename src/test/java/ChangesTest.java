@@ -12,8 +12,8 @@ public final class ChangesTest {
 
     public static void main(String[] args) {
         questionsChangeNothing();
-        tellingBeginsARunAloneAnew();
-        startBeginsARunAloneAnew();
+        tellingBeginsARunAnew();
+        startBeginsARunAnew();
         movesChangeTheRunAlone();
         callsChangeTheHistoryAlone();
         droppedCallsAlone();
@@ -26,10 +26,6 @@ public final class ChangesTest {
         } catch (RuntimeException e) {
             return e.getClass().getSimpleName();
         }
-    }
-
-    private static boolean isRefused(Ticketdoor x, Use use) {
-        return outcome(x, use).endsWith("Exception");
     }
 
     /** The one object is used once as it is, and once when all was asked before. */
@@ -96,57 +92,58 @@ public final class ChangesTest {
                 Use question = questions.get(name);
                 Ticketdoor x = sample.make();
                 String answer = outcome(x, question);
-                Check.due(name + " of " + sample.name() + " again", answer, () -> outcome(x, question));
                 Check.due(name + " of " + sample.name(), untouched, () -> Answers.shown(x));
-            }
-        }
-    }
-
-    private static Map<String, Use> tellings() {
-        Map<String, Use> all = new LinkedHashMap<>();
-        all.put("addWord", x -> x.addWord(6, false, 1));
-        all.put("addWord, safe", x -> x.addWord(9, true, 4));
-        all.put("addHand", Ticketdoor::addHand);
-        all.put("setBuffers on", x -> x.setBuffers(true));
-        all.put("setBuffers off", x -> x.setBuffers(false));
-        for (int number = 0; number < 3; number++) {
-            int hand = number;
-            all.put("addStep " + hand, x -> x.addStep(hand, 'i', 0, 0, 0));
-            all.put("addStep of a word " + hand, x -> x.addStep(hand, 'w', 2, 0, 0));
-            all.put("dropSteps " + hand, x -> x.dropSteps(hand));
-            for (int death = -1; death <= 3; death++) {
-                int step = death;
-                all.put("setDeath " + hand + " " + step, x -> x.setDeath(hand, step));
-            }
-        }
-        return all;
-    }
-
-    /** "All that is told of words, hands, steps, buffers and deaths begins a run anew": like a twin that made no move. */
-    private static void tellingBeginsARunAloneAnew() {
-        Map<String, Use> tellings = tellings();
-        for (String name : tellings.keySet()) {
-            Use telling = tellings.get(name);
-            boolean isTold = false;
-            for (Samples.Sample sample : Samples.ALL) {
-                if (!isRefused(sample.make(), telling)) {
-                    isTold = true;
-                    Check.due(name + " answers", outcome(sample.told().make(), telling), () -> telling.on(sample.make()).toString());
-                    like(name + " to " + sample.name(), () -> {
-                        Ticketdoor twin = sample.told().make();
-                        telling.on(twin);
-                        return sample.addCalls(twin);
-                    }, sample::make, telling);
+                Ticketdoor again = sample.make();
+                for (int time = 0; time < 3; time++) {
+                    Check.due(name + " of " + sample.name() + " again", answer, () -> outcome(again, question));
                 }
             }
-            Check.that(name + " is told to some", isTold);
+            Ticketdoor x = sample.make();
+            String asked = Answers.asked(x);
+            Check.due("all questions of " + sample.name() + " again", asked, () -> Answers.asked(x));
+            Check.due("and again", asked, () -> Answers.asked(x));
+        }
+    }
+
+    /** "All that is told of words, hands, steps, buffers and deaths begins a run anew", and changes nothing else. */
+    private static void told(String what, Samples.Sample sample, Samples.Sample with, Use telling) {
+        like(what + " to " + sample.name(), () -> with.history(with.toldOtherwise()), sample::make, telling);
+    }
+
+    private static void tellingBeginsARunAnew() {
+        for (Samples.Sample sample : Samples.ALL) {
+            if (sample != Samples.FULL) {
+                told("addWord", sample, sample.withWord("6w1"), x -> x.addWord(6, false, 1));
+                told("addWord, safe", sample, sample.withWord("9s4"), x -> x.addWord(9, true, 4));
+            }
+            if (sample.programs().length < 3) {
+                told("addHand", sample, sample.withHand(), Ticketdoor::addHand);
+            }
+            for (boolean areOn : new boolean[] {false, true}) {
+                told("setBuffers " + areOn, sample, sample.withBuffers(areOn), x -> x.setBuffers(areOn));
+            }
+            for (int number = 0; number < sample.programs().length; number++) {
+                int hand = number;
+                String program = sample.programs()[hand];
+                told("dropSteps " + hand, sample, sample.withProgram(hand, ""), x -> x.dropSteps(hand));
+                if (sample != Samples.FULL || hand > 0) {
+                    told("addStep " + hand, sample, sample.withProgram(hand, program + "; i"),
+                            x -> x.addStep(hand, 'i', 0, 0, 0));
+                    told("addStep of a word " + hand, sample, sample.withProgram(hand, program + "; w 2 0"),
+                            x -> x.addStep(hand, 'w', 2, 0, 0));
+                }
+                for (int death = -1; death <= 3; death++) {
+                    int step = death;
+                    told("setDeath " + hand + " " + step, sample, sample.withDeath(hand, step), x -> x.setDeath(hand, step));
+                }
+            }
         }
     }
 
     /** "Begins a run anew", and leaves all that was told, and the calls. */
-    private static void startBeginsARunAloneAnew() {
+    private static void startBeginsARunAnew() {
         for (Samples.Sample sample : Samples.ALL) {
-            like("start of " + sample.name(), () -> sample.addCalls(sample.told().make()), sample::make, Ticketdoor::start);
+            told("start", sample, sample, Ticketdoor::start);
         }
     }
 
@@ -162,15 +159,18 @@ public final class ChangesTest {
         }
         for (String name : moves.keySet()) {
             Use move = moves.get(name);
+            boolean isMade = false;
             for (Samples.Sample sample : Samples.ALL) {
-                if (!isRefused(sample.make(), move)) {
+                if (!outcome(sample.make(), move).endsWith("Exception")) {
+                    isMade = true;
                     like(name + " of " + sample.name(), () -> {
-                        Ticketdoor twin = Check.moves(sample.told().make(), sample.moves());
+                        Ticketdoor twin = sample.run(sample.toldOtherwise());
                         move.on(twin);
-                        return sample.addCalls(twin);
+                        return sample.history(twin);
                     }, sample::make, move);
                 }
             }
+            Check.that(name + " is made by some", isMade);
         }
     }
 
@@ -178,13 +178,10 @@ public final class ChangesTest {
     private static void callsChangeTheHistoryAlone() {
         for (char kind : "wred".toCharArray()) {
             for (Samples.Sample sample : Samples.ALL) {
-                Use adding = x -> x.addCall(kind, 1, 3, 7);
-                if (!isRefused(sample.make(), adding)) {
-                    like("addCall " + kind + " to " + sample.name(), () -> {
-                        Ticketdoor twin = sample.addCalls(sample.told().make());
-                        adding.on(twin);
-                        return Check.moves(twin, sample.moves());
-                    }, sample::make, adding);
+                if (sample != Samples.FULL) {
+                    Samples.Sample with = sample.withCall(kind + "1 3 7");
+                    like("addCall " + kind + " to " + sample.name(), () -> with.run(with.history(with.toldOtherwise())),
+                            sample::make, x -> x.addCall(kind, 1, 3, 7));
                 }
             }
         }
@@ -193,7 +190,8 @@ public final class ChangesTest {
     /** "Takes all calls away", and nothing else: like a twin that never had one. */
     private static void droppedCallsAlone() {
         for (Samples.Sample sample : Samples.ALL) {
-            like("dropCalls of " + sample.name(), () -> Check.moves(sample.told().make(), sample.moves()), sample::make,
+            Samples.Sample without = sample.withoutCalls();
+            like("dropCalls of " + sample.name(), () -> without.run(without.toldOtherwise()), sample::make,
                     Ticketdoor::dropCalls);
         }
     }

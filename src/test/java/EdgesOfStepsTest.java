@@ -34,6 +34,9 @@ public final class EdgesOfStepsTest {
         whatDeathTakes();
         deathWhileWriting();
         valuesBeforeADeath();
+        stepsInAnyCase();
+        writesBehindADeath();
+        buffersOfSafeWords();
         Check.finish("EdgesOfStepsTest");
     }
 
@@ -603,6 +606,110 @@ public final class EdgesOfStepsTest {
                 }
                 return ends;
             });
+        }
+    }
+
+    /** What a hand is, by programs of three steps that leave its registers at 0: inside, trying, or has decided. */
+    private static final String[] CASES = {"t; k 2 0; k 2 0", "i; k 2 0; k 2 0", "i; t; k 2 0", "t; i; o", "t; o; k 2 0",
+        "d 0; k 2 0; k 2 0", "i; d 1; t"};
+    private static final String NO_CASE = "k 2 0; k 2 0; k 2 0";
+    private static final String[] ALL_STEPS = {"r 2 0", "r 2 1", "r 2 2", "w 0 0", "w 0 1", "w 0 2", "k 2 9", "+ 0 1", "m 0 1",
+        "= 0 1 9", "= 0 2 9", "< 0 1 9", "< 1 0 9", "j 0 0 9", "s 0 0", "s 0 1", "s 0 2", "n 0 0 1", "n 1 0 0", "n 0 1 1",
+        "n 0 2 1", "f 2 0", "f 2 1", "f 2 2", "y", "t", "i", "o", "d 1", "z 2", "h"};
+
+    /** Hand 1 is writing word 1 if buffers are off; hand 0's registers are 3, 4 and 0, and its next step is the sixth. */
+    private static Ticketdoor before(String program, String step, boolean hasBuffers, boolean hasDied) {
+        Ticketdoor x = new Ticketdoor();
+        x.addWord(3, false, 1);
+        x.addWord(8, true, 5);
+        x.addWord(7, true, 2);
+        Check.withHands(x, program + "; k 0 3; k 1 4; " + step, "w 0 1");
+        x.setBuffers(hasBuffers);
+        x.setDeath(0, 3);
+        return Check.moves(x, "1 " + (hasDied ? "d0" : "0 0 0") + " 0 0");
+    }
+
+    private static String behind(Ticketdoor x, String step, int choice) {
+        try {
+            x.act(0, choice);
+        } catch (NoSuchElementException e) {
+            return "no choice";
+        }
+        StringBuilder all = new StringBuilder().append(x.getNext(0)).append(' ').append(x.countBuffered(0)).append(' ');
+        for (int index = 0; index < 3; index++) {
+            all.append(x.getRegister(0, index)).append(' ').append(x.getWord(index)).append(' ');
+        }
+        all.append(x.getNext(1)).append(' ').append(x.countBuffered(1));
+        if (step.equals("t")) {
+            all.append(x.isTrying(0));
+        } else if (step.equals("i")) {
+            all.append(x.isInside(0)).append(x.isTrying(0));
+        } else if (step.equals("o")) {
+            all.append(x.isInside(0));
+        } else if (step.startsWith("d")) {
+            all.append(x.getDecided(0));
+        }
+        return all.toString();
+    }
+
+    /** A step is the same whether the hand is inside, trying, has decided or has died once, and so is a second one. */
+    private static void stepsInAnyCase() {
+        for (String step : ALL_STEPS) {
+            for (boolean hasBuffers : new boolean[] {false, true}) {
+                for (int number = 0; number <= 6; number++) {
+                    int choice = number;
+                    String due = behind(before(NO_CASE, step, hasBuffers, false), step, choice);
+                    Check.due(step + " of one that died", due,
+                            () -> behind(before(NO_CASE, step, hasBuffers, true), step, choice));
+                    for (String program : CASES) {
+                        Check.due(step + " behind " + program, due,
+                                () -> behind(before(program, step, hasBuffers, false), step, choice));
+                    }
+                }
+            }
+        }
+        Check.due("a torn read of them", 6, () -> choices("r 2 1", false));
+        Check.due("a read of another safe word", 1, () -> choices("r 2 2", false));
+        Check.due("a read with buffers", 1, () -> choices("r 2 1", true));
+        Check.due("a toss", 2, () -> choices("z 2", true));
+    }
+
+    private static int choices(String step, boolean hasBuffers) {
+        int many = 0;
+        while (!behind(before(NO_CASE, step, hasBuffers, false), step, many).equals("no choice")) {
+            many++;
+        }
+        return many;
+    }
+
+    /** A hand that died writes a safe word by two moves, and its writes are held back, as before. */
+    private static void writesBehindADeath() {
+        Ticketdoor x = safe(6, 1, "k 0 2; w 0 0; o");
+        x.setDeath(0, 0);
+        Check.moves(x, "0 d0 0 0");
+        Check.due("the first move", 1, () -> x.getNext(0));
+        Check.due("the value as before", 6, () -> x.getWord(0));
+        Check.moves(x, "0");
+        Check.due("the second move", 2, () -> x.getWord(0));
+        x.setBuffers(true);
+        Check.moves(x, "0 d0 0 0");
+        Check.due("held back", 1, () -> x.countBuffered(0));
+        Check.due("and not written", 6, () -> x.getWord(0));
+        Check.due("it goes to its word", 0, () -> x.flush(0));
+        Check.due("written", 2, () -> x.getWord(0));
+    }
+
+    /** What goes from a buffer to a safe word is whole, and so is what a read gives of it, above its greatest value, too. */
+    private static void buffersOfSafeWords() {
+        for (int number = 0; number < 10; number++) {
+            int value = number;
+            Ticketdoor x = safe(5, 1, "k 0 " + value + "; w 0 0; r 1 0; o", "r 1 0");
+            x.setBuffers(true);
+            Check.moves(x, "0 0 0");
+            Check.due("read from the own buffer", value, () -> x.getRegister(0, 1));
+            Check.moves(x, "b0 1");
+            Check.due("in its word", value, () -> x.getWord(0));
+            Check.due("read from there", value, () -> x.getRegister(1, 1));
         }
     }
 }
