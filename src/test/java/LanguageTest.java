@@ -64,6 +64,8 @@ public final class LanguageTest {
             String name = matcher.group(2);
             Check.that("short " + name, body.lines().count() <= MOST_LINES);
             Check.that("few parameters " + name, matcher.group(3).split(",").length <= MOST_PARAMETERS);
+            boolean callsItself = Pattern.compile("(?<![.\\w])" + name + "\\(").matcher(body).find();
+            Check.that("no recursion but a static one " + name, !callsItself || matcher.group().contains("private static"));
             Set<String> called = CALLS.computeIfAbsent(name, key -> new HashSet<>());
             Matcher calls = CALL.matcher(body);
             while (calls.find()) {
